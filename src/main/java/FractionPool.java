@@ -775,21 +775,21 @@ public final class FractionPool {
             return order == 0 ? 0 : sign;
         }
 
-        /** False when the power has more limbs than the room; each step of it is no longer than the power. */
+        /**
+         * False when the power is surely beyond the room. It has more bits than the base's bits less 1,
+         * times the exponent, and so what is made here is at most 1000 bits longer than the room.
+         */
         boolean raise(Whole power, Whole base, int times, int room) {
+            if ((base.bits() - 1) * times >= 32 * room) {
+                return false;
+            }
             power.becomeLong(1);
             for (int bit = 31 - Integer.numberOfLeadingZeros(times); bit >= 0; bit--) {
                 spare.productOf(power, power);
-                if (spare.size > room) {
-                    return false;
-                }
                 power.become(spare);
                 if ((times >>> bit & 1) != 0) {
                     spare.productOf(power, base);
                     power.become(spare);
-                }
-                if (power.size > room) {
-                    return false;
                 }
             }
             return true;
