@@ -139,9 +139,13 @@ public final class PromisesTest {
         holds("4: register 31", pool, 31, "12345678901234567890");
         checks.due("4: swap(31, 31)", () -> pool.swap(31, 31), 3);
         holds("4: register 31 with itself", pool, 31, "12345678901234567890");
+        checks.due("4: a longer denominator", () -> pool.set(3, 1, 1L << 40), 3);
+        checks.due("4: swap(3, 2)", () -> pool.swap(3, 2), 2);
+        holds("4: register 2", pool, 2, "1/1099511627776");
+        holds("4: register 3", pool, 3, "1/2");
         pool.set(0, 1, 1);
-        holds("4: register 2 after all that", pool, 2, "1/2");
-        checks.due("4: used()", pool::used, 32 + 1 + 1 + 2);
+        holds("4: register 2 after all that", pool, 2, "1/1099511627776");
+        checks.due("4: used()", pool::used, 32 + 1 + 2 + 2 + 1);
         for (int r : NO_REGISTERS) {
             checks.thrown("4: swap " + r, () -> pool.swap(r, 0), INDEX);
             checks.thrown("4: swap with " + r, () -> pool.swap(0, r), INDEX);
