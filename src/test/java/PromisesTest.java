@@ -210,7 +210,7 @@ public final class PromisesTest {
         int run(int to, int a, int b);
     }
 
-    /** No such register, in each of the three places, and a result that the room has no place for. */
+    /** No such register, in each of the three places. */
     private void wrongRegisters(String what, Three three) {
         for (int r : NO_REGISTERS) {
             checks.thrown(what + " to " + r, () -> three.run(r, 0, 1), INDEX);
