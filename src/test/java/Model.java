@@ -232,7 +232,7 @@ final class Model {
         return true;
     }
 
-    private static int faultOf(String text) {
+    static int faultOf(String text) {
         if (NUMBER.matcher(text).matches()) {
             return -1;
         }
