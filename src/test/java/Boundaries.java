@@ -98,6 +98,7 @@ abstract class Boundaries {
         FractionPool pool = maker.make();
         checks.due(name + ": " + what, () -> use.on(pool), need);
         checks.same(name + ": what " + what + " made", Checks.text(pool, r), number);
+        checks.due(name + ": the sign of what " + what + " made", () -> pool.sign(r), Checks.signOf(number));
     }
 
     /** The call throws what is due, and all that can be seen of the object is as it was. */

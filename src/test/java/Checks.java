@@ -78,6 +78,11 @@ final class Checks {
         return text.toString();
     }
 
+    /** The sign of a number that is printed so. */
+    static int signOf(String printed) {
+        return printed.equals("0") ? 0 : printed.startsWith("-") ? -1 : 1;
+    }
+
     static void put(FractionPool pool, int r, String text) {
         typeAll(pool, text);
         pool.read(r);

@@ -55,6 +55,7 @@ public final class PromisesTest {
 
     private void holds(String what, FractionPool pool, int r, String due) {
         checks.same(what, Checks.text(pool, r), due);
+        checks.due(what + ", its sign", () -> pool.sign(r), Checks.signOf(due));
     }
 
     /** 2^bits in a register, by squaring and doubling it, so that no other register needs a limb. */
